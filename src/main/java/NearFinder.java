@@ -178,20 +178,17 @@ public final class NearFinder {
             return 0;
         }
         for (int entry = 0; entry < book.size; entry++) {
-            if (isLookedFor(entry) && !(byBounds && isTooFar(entry))) {
-                sumsWorked++;
-                hits.offer(entry, leastOfWays(entry, byChanges), book.days[entry]);
+            if (!isLookedFor(entry) || byBounds && leastOfWays(entry, byCounts) > hits.limit()) {
+                continue;
             }
+            sumsWorked++;
+            hits.offer(entry, leastOfWays(entry, byChanges), book.days[entry]);
         }
         return hits.size;
     }
 
     private boolean isLookedFor(int entry) {
         return !book.dropped[entry] && (askedPlace == BAD || askedPlace == book.places[entry]);
-    }
-
-    private boolean isTooFar(int entry) {
-        return leastOfWays(entry, byCounts) > hits.limit();
     }
 
     private int leastOfWays(int entry, Measure measure) {

@@ -27,6 +27,11 @@ final class CountTest {
     due.is("3 found ones stay", x.count(3), 2);
     due.is("a find with nothing asked", x.find(1, 1000), 0);
     due.is("3 none found", x.count(3), 0);
+    while (x.count(0) < 40) {
+      x.entry(0);
+    }
+    x.drop(39, true);
+    due.is("4 dropped ones of forty", x.count(4), 2);
     due.end();
   }
 }

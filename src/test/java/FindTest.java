@@ -7,6 +7,7 @@ final class FindTest {
     nothingAsked();
     nearestFirst();
     boundsThatCountLetters();
+    countsStartAnew();
     boundsByTheLeastWay();
     boundsByTheLastOne();
     fortyEntries();
@@ -157,6 +158,20 @@ final class FindTest {
     x.weight(3, 2);
     found(x, 1, 3, 0);
     found(x, 1, 4, 1);
+  }
+
+  private static void countsStartAnew() {
+    NearFinder x = book("e", "aa", "bb");
+    Given.ask(x, NearFinder.BAD, "ab");
+    x.weight(4, 1000);
+    // letters that the words before have not used up are not those of the next word
+    found(x, 3, 4, 0);
+    found(x, 3, 5, 2);
+    Given.ask(x, NearFinder.BAD, "", "", "aaaaaaaaab");
+    found(x, 3, 39, 0);
+    found(x, 3, 40, 1);
+    found(x, 3, 45, 2);
+    found(x, 3, 50, 3);
   }
 
   private static void only(NearFinder x, int entry) {

@@ -234,7 +234,11 @@ final class PlainModel {
   }
 
   private static int times(String word, char c) {
-    return (int) word.chars().filter(x -> x == c).count();
+    int times = 0;
+    for (int i = word.indexOf(c); i >= 0; i = word.indexOf(c, i + 1)) {
+      times++;
+    }
+    return times;
   }
 
   private Way bestWay(Entry e, Measure measure) {
