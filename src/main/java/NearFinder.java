@@ -1,7 +1,7 @@
 /**
  * Finds those addresses of a book whose words are the least changes away from the words that are asked.
  *
- * All rows are made by the constructors and used again, so that no call makes an object.
+ * All rows are made by the constructors and used again, so that no call makes an object (but for what share throws).
  */
 public final class NearFinder {
     public static final int BAD = -1;
