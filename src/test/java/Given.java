@@ -1,3 +1,5 @@
+import java.util.Arrays;
+
 /** Fills finders with words that are written as texts; "" is a word that is none. */
 final class Given {
   private Given() {
@@ -32,6 +34,31 @@ final class Given {
     for (int kind = 0; kind < weights.length; kind++) {
       x.weight(kind, weights[kind]);
     }
+  }
+
+  /** A state in which a change of anything can be seen: like entries, days, places, a dropped one, found ones. */
+  static void much(NearFinder x) {
+    for (int place : new int[] {7, 7, 8, 7, 7}) {
+      entry(x, place, "ab", "", "c");
+    }
+    x.learned(1, 5);
+    x.learned(4, 9);
+    x.drop(3, true);
+    x.weight(1, 12);
+    ask(x, 7, "ac", "b");
+    x.find(2, 200);
+  }
+
+  static void full(NearFinder x) {
+    for (int i = 0; i < 40; i++) {
+      entry(x, i, "a");
+    }
+    ask(x, NearFinder.BAD, "a");
+    x.find(3, 200);
+  }
+
+  static String[] first(int n, String... words) {
+    return Arrays.copyOf(words, n);
   }
 
   static String letters(char c, int times) {

@@ -188,7 +188,7 @@ final class PlainModel {
     return changesBetween(from, to, new int[11][11]);
   }
 
-  /** By the ends of the words: known[i][j] is one more than the changes of the first i and j letters, 0 for not known. */
+  /** By the words' ends: known[i][j] is one more than the changes of the first i and j letters, 0 for not known. */
   private int changesBetween(String from, String to, int[][] known) {
     int i = from.length();
     int j = to.length();
