@@ -20,8 +20,8 @@ final class Sentences {
     document = read();
   }
 
-  /** Nothing, if it is not there: the sentences' tests can be run without it. */
-  private static String read() {
+  /** The document, or nothing, if it is not there: the sentences' tests can be run without it. */
+  static String read() {
     if (!Files.exists(DOCUMENT)) {
       System.out.println("there is no " + DOCUMENT + ": quotes are not compared with it");
       return "";
